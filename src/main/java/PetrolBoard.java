@@ -61,6 +61,9 @@ public final class PetrolBoard {
     private static final int WORD_TRIP = 301;
     private static final int WORD_STOP = 302;
     private static final int WORD_WORTH = 303;
+    private static final int WORD_LAPSE = 304;
+    private static final int WORD_LEND = 305;
+    private static final int WORD_WASTE = 306;
     private static final int WORD_DOUBT = 307;
     private static final int WORD_IF = 308;
     private static final int WORD_OR = 309;
@@ -69,6 +72,11 @@ public final class PetrolBoard {
     private static final int WORD_LEAST = 312;
     private static final int WORD_MOST = 313;
     private static final int WORD_CLASS = 314;
+    private static final int WORD_SIZE = 315;
+    private static final int WORD_TOWN = 316;
+    private static final int WORD_MONTH = 317;
+    private static final int WORD_MILES = 318;
+    private static final int WORD_PEOPLE = 319;
     private static final int WORD_REASON = 320;
     private static final int TOKEN_NUMBER = 400;
     private static final int TOKEN_END = 401;
@@ -868,14 +876,11 @@ public final class PetrolBoard {
         private void scan(int n) {
             int length = Math.min(n, text.length);
             scanned = 0;
-            int from = 0;
-            while (from < length) {
-                if (isBlank(text[from])) {
-                    from++;
-                } else {
-                    int to = endOf(from, length);
+            int to;
+            for (int from = 0; from < length; from = Math.max(to, from + 1)) {
+                to = endOf(from, length);
+                if (!isBlank(text[from])) {
                     addToken(tokenOf(from, to), from, numberOf(from, to));
-                    from = to;
                 }
             }
             addToken(TOKEN_END, length, 0);
@@ -975,26 +980,26 @@ public final class PetrolBoard {
 
         private static String wordText(int word) {
             switch (word) {
-                case 300: return "units";
-                case 301: return "trip";
-                case 302: return "stop";
-                case 303: return "worth";
-                case 304: return "lapse";
-                case 305: return "lend";
-                case 306: return "waste";
-                case 307: return "doubt";
-                case 308: return "if";
-                case 309: return "or";
-                case 310: return "and";
-                case 311: return "not";
-                case 312: return "least";
-                case 313: return "most";
-                case 314: return "class";
-                case 315: return "size";
-                case 316: return "town";
-                case 317: return "month";
-                case 318: return "miles";
-                case 319: return "people";
+                case WORD_UNITS: return "units";
+                case WORD_TRIP: return "trip";
+                case WORD_STOP: return "stop";
+                case WORD_WORTH: return "worth";
+                case WORD_LAPSE: return "lapse";
+                case WORD_LEND: return "lend";
+                case WORD_WASTE: return "waste";
+                case WORD_DOUBT: return "doubt";
+                case WORD_IF: return "if";
+                case WORD_OR: return "or";
+                case WORD_AND: return "and";
+                case WORD_NOT: return "not";
+                case WORD_LEAST: return "least";
+                case WORD_MOST: return "most";
+                case WORD_CLASS: return "class";
+                case WORD_SIZE: return "size";
+                case WORD_TOWN: return "town";
+                case WORD_MONTH: return "month";
+                case WORD_MILES: return "miles";
+                case WORD_PEOPLE: return "people";
                 default: return "reason";
             }
         }
