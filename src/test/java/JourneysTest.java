@@ -80,6 +80,11 @@ public final class JourneysTest {
         CHECK.due(grantedBy("trip 1 if people<3;trip 2 if people=3;trip 3;", 0, 100, 3, 2), 2);
         CHECK.due(grantedBy("trip 1 if people<3;trip 2 if people>3;", 0, 100, 3, 2), 0);
         CHECK.due(grantedBy("trip 1;trip 2;", 0, 100, 3, 2), 1);
+        // UNITS behind a JOURNEY have no miles, people and reason.
+        PetrolBoard b = board("units 5+miles+people+reason;trip miles+people+reason;");
+        b.ask(0, 20, 3, 2, 0, 12);
+        CHECK.due(b.journey(0, 6), 25);
+        CHECK.due(b.units(0, 0, 0), 5);
         // "stop" is for UNITS alone.
         CHECK.due(grantedBy("stop 1=1;trip 8;", 0, 100, 3, 2), 8);
     }

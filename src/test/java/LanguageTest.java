@@ -97,7 +97,7 @@ public final class LanguageTest {
         CHECK.promise("rules 3 to 6, what stands in the text");
         String code = source.replaceAll("(?s)/\\*.*?\\*/", "").replaceAll("//[^\n]*", "");
         String[] never = {"\\bthrow\\b", "\\bthrows\\b", "\\btry\\b", "\\bcatch\\b", "\\bsynchronized\\b",
-            "\\bassert\\b", "\\bpackage\\b", "->", "::", "\\bExact\\b", "\\bfloat\\b", "\\bdouble\\b", "\\bObject\\b",
+            "\\bassert\\b", "\\bpackage\\b", "->", "::", "Exact\\b", "\\bfloat\\b", "\\bdouble\\b", "\\bObject\\b",
             "\\bSystem\\b", "\\bRandom\\b", "\\bThread\\b", "\\bprotected\\b", "[^\\x00-\\x7f]", "\\w\" *\\+"};
         for (String each : never) {
             CHECK.due(Pattern.compile(each).matcher(code).find(), false);

@@ -152,7 +152,7 @@ public final class LoadsTest {
     private static void flowAgainstAllWays() {
         CHECK.promise("promise 29, against all ways tried");
         Random random = new Random(11);
-        for (int run = 0; run < 300; run++) {
+        for (int run = 0; run < 150; run++) {
             int[] ports = new int[1 + random.nextInt(3)];
             int[] wants = new int[1 + random.nextInt(3)];
             for (int p = 0; p < ports.length; p++) {
@@ -169,13 +169,20 @@ public final class LoadsTest {
                     b.road(k / 3, k % 3, roads[k]);
                 }
             }
-            int shut = random.nextInt(ports.length + 1) - 1;
-            if (shut >= 0) {
-                ports[shut] = 0;
+            // The same board for many: what was asked before leaves no trace.
+            for (int ask = 0; ask < 6; ask++) {
+                int shut = random.nextInt(ports.length + 1) - 1;
+                int changed = random.nextInt(ports.length) * 3 + random.nextInt(wants.length);
+                roads[changed] = random.nextInt(10);
+                b.road(changed / 3, changed % 3, roads[changed]);
+                int[] left = java.util.Arrays.copyOf(ports, 3);
+                if (shut >= 0) {
+                    left[shut] = 0;
+                }
+                int[] best = {0, 0};
+                tryLoads(left, java.util.Arrays.copyOf(wants, 3), roads, 0, 0, 0, best);
+                due(b, shut, best[0], best[1]);
             }
-            int[] best = {0, 0};
-            tryLoads(java.util.Arrays.copyOf(ports, 3), java.util.Arrays.copyOf(wants, 3), roads, 0, 0, 0, best);
-            due(b, shut, best[0], best[1]);
         }
     }
 

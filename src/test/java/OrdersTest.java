@@ -83,6 +83,7 @@ public final class OrdersTest {
 
     private static void twelveOrders() {
         CHECK.promise("promise 8, twelve ORDERS");
+        longOrders();
         PetrolBoard b = new PetrolBoard();
         for (int k = 0; k < 12; k++) {
             CHECK.due(Check.tell(b, "doubt " + k + ";", k), k);
@@ -96,6 +97,25 @@ public final class OrdersTest {
         CHECK.due(b.rule(11, 0, 4), 11);
         CHECK.due(b.rule(0, 0, 4), 0);
         CHECK.due(b.fault(), -1);
+    }
+
+    /** Each text is read for itself: nothing of the ones before it is left, however long they were. */
+    private static void longOrders() {
+        PetrolBoard b = new PetrolBoard();
+        b.holder(1, 0, 1, 0, 0);
+        CHECK.due(Check.tell(b, "units 7;worth 8;lapse 3;", 0), 0);
+        CHECK.due(Check.tell(b, "", 0), 1);
+        CHECK.due(b.rule(0, 0, 0), 10);
+        CHECK.due(b.rule(0, 0, 1), 1);
+        CHECK.due(b.units(0, 0, 0), 0);
+        CHECK.due(Check.tell(b, "units 7;worth 8;lapse;", 0), -1);
+        for (int k = 2; k < 12; k++) {
+            CHECK.due(Check.tell(b, "units 1" + "+1".repeat(243) + "-" + (200 + k) + ";", 0), k);
+            CHECK.due(b.units(0, 0, 0), 44 - k);
+            CHECK.due(b.rule(0, 0, 0), 10);
+            CHECK.due(Check.tell(b, "stop 1=1;units 8", 0), k < 11 ? -1 : -3);
+            CHECK.due(b.units(0, 0, 0), 44 - k);
+        }
     }
 
     private static void fault(String text, int place) {
