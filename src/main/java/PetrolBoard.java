@@ -552,6 +552,11 @@ public final class PetrolBoard {
         return value >= least && value <= most;
     }
 
+    /** What holds of WORTH to DOUBT where no ORDERS tell it. */
+    private static int usual(int what) {
+        return what >= 0 && what < USUAL.length ? USUAL[what] : NONE;
+    }
+
     private static boolean isDay(int day) {
         return within(day, 0, DAYS - 1);
     }
@@ -1032,7 +1037,7 @@ public final class PetrolBoard {
                     return first[k];
                 }
             }
-            return what >= 0 && what < USUAL.length ? USUAL[what] : NONE;
+            return usual(what);
         }
 
         boolean stops(Machine machine) {
@@ -1153,10 +1158,7 @@ public final class PetrolBoard {
 
         int amount(int what, int month, int known) {
             Orders orders = ordersOf(month, known);
-            if (orders != null) {
-                return orders.amount(what);
-            }
-            return what >= 0 && what < USUAL.length ? USUAL[what] : NONE;
+            return orders == null ? usual(what) : orders.amount(what);
         }
 
         int unitsOf(Holders holders, int holder, int month, int known) {
