@@ -383,6 +383,10 @@ public final class OrdersTest {
         CHECK.due(reckoned("0-1"), 0);
         CHECK.due(reckoned("999999"), 99);
         CHECK.due(reckoned("000007"), 7);
+        // As many operands waiting as nine open ones allow.
+        CHECK.due(reckoned("1+1*most(1,".repeat(9) + "1+1*2" + ")".repeat(9)), 12);
+        CHECK.due(reckoned("3 if 1=2 or 1=1 and 12=" + "1+1*most(1,".repeat(9) + "1+1*2" + ")".repeat(9)), 3);
+        CHECK.due(reckoned("3 if " + "1=2 or 1=1 and {".repeat(9) + "1=2 or 1=1 and 3=1+1*2" + "}".repeat(9)), 3);
         // Held to 10^9 on both sides at each result.
         CHECK.due(reckoned("999999*999999/1000/10000"), 99);
         CHECK.due(reckoned("999999*999999/20000/1000"), 50);
