@@ -1,5 +1,12 @@
+import java.io.IOException;
+import java.nio.file.Files;
+import java.nio.file.Path;
+
 /** Counts answers that are not due and tells where each was asked. */
 final class Check {
+    private static final Path DOCUMENT = Path.of("../shared/DOC.md");
+    private static String document;
+
     private final String name;
     private String promise = "";
     private int asked;
@@ -11,6 +18,31 @@ final class Check {
 
     void promise(String text) {
         promise = text;
+    }
+
+    /** A sentence of the document, word by word: what follows tests it. */
+    void says(int promise, String sentence) {
+        says("promise " + promise, sentence);
+    }
+
+    void saysOfTerm(int term, String sentence) {
+        says("term " + term, sentence);
+    }
+
+    private void says(String where, String sentence) {
+        promise = where + " \"" + sentence + "\"";
+        due(document().contains(sentence), true);
+    }
+
+    private static String document() {
+        if (document == null) {
+            try {
+                document = Files.readString(DOCUMENT);
+            } catch (IOException e) {
+                throw new IllegalStateException("run from the project's root, beside ../shared", e);
+            }
+        }
+        return document;
     }
 
     void due(long got, long want) {
@@ -27,7 +59,8 @@ final class Check {
 
     private static int line() {
         for (StackTraceElement frame : new Throwable().getStackTrace()) {
-            if (!frame.getClassName().equals("Check")) {
+            String in = frame.getClassName();
+            if (!in.equals("Check") && !in.startsWith("Twin")) {
                 return frame.getLineNumber();
             }
         }
