@@ -7,6 +7,11 @@ public final class Term2Test {
 
     public static void main(String[] args) {
         noRuleAtAll();
+        rule();
+        exOfOneOrMore();
+        atom();
+        condOfOneOrMore();
+        names();
         twentyBytes();
         upTo500();
         textOf500();
@@ -54,6 +59,113 @@ public final class Term2Test {
         fault("lend 1 lend 2;", 7);
         fault("lend 1;lend 2", 13);
         fault("lend 1;lend 2;", SOUND);
+    }
+
+    private static void rule() {
+        CHECK.saysOfTerm(2, "RULE: (\"units\" | \"trip\") EX [\"if\" COND] | \"stop\" COND | (\"worth\" | \"lapse\" | \"lend\" | \"waste\" | \"doubt\") NUMBER.");
+        for (String head : new String[] {"units", "trip"}) {
+            int n = head.length();
+            fault(head + " 1;", SOUND);
+            fault(head + " 1 if 1<1;", SOUND);
+            fault(head + ";", n);
+            fault(head + " if 1<1;", n + 1);
+            fault(head + " 1 if;", n + 5);
+            fault(head + " 1 if 1;", n + 7);
+            fault(head + " 1 if 1<1 if 1<1;", n + 10);
+            fault(head + " 1 1<1;", n + 3);
+        }
+        fault("stop 1<1;", SOUND);
+        fault("stop;", 4);
+        fault("stop 1;", 6);
+        fault("stop 1<1 if 1<1;", 9);
+        for (String head : new String[] {"worth", "lapse", "waste", "doubt", "lend"}) {
+            int n = head.length();
+            fault(head + " 1;", SOUND);
+            fault(head + ";", n);
+            fault(head + " size;", n + 1);
+            fault(head + " (1);", n + 1);
+            fault(head + " 1+1;", n + 2);
+            fault(head + " 1 if 1<1;", n + 3);
+        }
+    }
+
+    private static void exOfOneOrMore() {
+        CHECK.saysOfTerm(2, "EX: PROD {(\"+\" | \"-\") PROD}. PROD: ATOM {(\"*\" | \"/\") ATOM}.");
+        for (String sign : new String[] {"+", "-", "*", "/"}) {
+            fault("trip 1" + (sign + "1").repeat(240) + ";", SOUND);
+            fault("trip 1" + (sign + "1").repeat(240) + sign + ";", 487);
+            fault("trip 1" + sign + "1;", SOUND);
+            fault("trip " + sign + "1;", 5);
+            fault("trip 1" + sign + ";", 7);
+            fault("trip 1" + sign + sign + "1;", 7);
+            fault("trip (" + sign + "1);", 6);
+            fault("trip (1" + sign + ");", 8);
+        }
+    }
+
+    private static void atom() {
+        CHECK.saysOfTerm(2, "ATOM: NUMBER | NAME | \"(\" EX \")\" | (\"least\" | \"most\") \"(\" EX \",\" EX \")\".");
+        fault("trip 1;trip size;trip (1+size);trip least(1+1,size);trip most((1),least(2,3));", SOUND);
+        fault("trip ();", 6);
+        fault("trip (1;", 7);
+        fault("trip 1);", 6);
+        fault("trip (1,1);", 7);
+        for (String word : new String[] {"least", "most"}) {
+            int n = 5 + word.length();
+            fault("trip " + word + " ( 1 , 1 ) ;", SOUND);
+            fault("trip " + word + ";", n);
+            fault("trip " + word + " 1,1;", n + 1);
+            fault("trip " + word + "();", n + 1);
+            fault("trip " + word + "(1);", n + 2);
+            fault("trip " + word + "(,1);", n + 1);
+            fault("trip " + word + "(1,);", n + 3);
+            fault("trip " + word + "(1,1;", n + 4);
+            fault("trip " + word + "(1,1,1);", n + 4);
+            fault("trip " + word + "(1<1,1);", n + 2);
+        }
+    }
+
+    private static void condOfOneOrMore() {
+        CHECK.saysOfTerm(2, "COND: ALL {\"or\" ALL}. ALL: ONE {\"and\" ONE}. ONE: \"not\" ONE | \"{\" COND \"}\" | EX (\"<\" | \">\" | \"=\") EX.");
+        for (String word : new String[] {"or", "and"}) {
+            int n = 9 + word.length();
+            fault("stop 1<1" + (" " + word + " 1=1").repeat(50) + ";", SOUND);
+            fault("stop 1<1 " + word + ";", n);
+            fault("stop " + word + " 1<1;", 5);
+            fault("stop 1<1 " + word + " " + word + " 1<1;", n + 1);
+            fault("stop 1 " + word + " 1<1;", 7);
+            fault("stop {1<1 " + word + " 1<1};", SOUND);
+            fault("stop {1<1 " + word + "};", n + 1);
+            fault("stop 1<1 " + word + " not 1<1;", SOUND);
+        }
+        fault("stop not;", 8);
+        fault("stop {};", 6);
+        fault("stop {1<1;", 9);
+        fault("stop 1<1};", 8);
+        fault("stop {1<1)};", 9);
+        fault("stop <1;", 5);
+        fault("stop 1<;", 7);
+        fault("stop 1<1<1;", 8);
+        fault("stop 1<1=1;", 8);
+        fault("stop (1<1);", 7);
+        fault("stop {1}<1;", 7);
+        fault("stop not not {not {1>1}};", SOUND);
+    }
+
+    private static void names() {
+        CHECK.saysOfTerm(2, "NAME: class, size, town, month, miles, people, reason.");
+        String[] all = {"class", "size", "town", "month", "miles", "people", "reason"};
+        for (String name : all) {
+            fault("trip " + name + ";", SOUND);
+            fault("trip " + name + "+(" + name + ")*most(" + name + "," + name + ") if " + name + "<" + name + ";", SOUND);
+            fault(name + ";", 0);
+            fault("trip " + name + " " + name + ";", 6 + name.length());
+            fault("lend " + name + ";", 5);
+            fault("trip " + name + "(1);", 5 + name.length());
+        }
+        for (String other : new String[] {"seats", "bid", "need", "day", "holder", "units", "if", "not", "or", "known"}) {
+            fault("trip " + other + ";", 5);
+        }
     }
 
     private static void twentyBytes() {

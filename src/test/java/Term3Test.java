@@ -12,6 +12,7 @@ public final class Term3Test {
         usedFromItsMonth();
         usedTillItLapses();
         lapseAsKnownOnTheDayOfUse();
+        poursUpTo300();
         anyNumber();
         worthOfTodaysMonth();
         handedInOfThatStation();
@@ -250,6 +251,31 @@ public final class Term3Test {
         CHECK.due(b.poured(late, 5), 0);
         CHECK.due(b.poured(again, 5), 3);
         CHECK.due(b.poured(other, 5), 3);
+    }
+
+    private static void poursUpTo300() {
+        CHECK.saysOfTerm(3, "POURED, up to 300");
+        PetrolBoard b = board("units 99;", 3);
+        b.station();
+        b.issue(0, 0);
+        b.issue(1, 0);
+        for (int p = 0; p < 300; p++) {
+            CHECK.due(b.pour(p % 2, p % 2, p % 2 * 2400 + p / 2 % 100), p);
+        }
+        CHECK.due(b.pour(0, 0, 0), -1);
+        CHECK.due(b.count(6), 300);
+        // Of each STATION 150: 99 coupons, a number that none has, and 50 of them once more.
+        CHECK.due(b.handIn(1), 99);
+        CHECK.due(b.count(8), 51);
+        CHECK.due(b.handIn(0), 99);
+        CHECK.due(b.count(7), 198);
+        CHECK.due(b.count(8), 102);
+        CHECK.due(b.poured(299, 5), 2);
+        CHECK.due(b.poured(298, 5), 2);
+        CHECK.due(b.poured(199, 5), 1);
+        CHECK.due(b.poured(300, 5), -1);
+        CHECK.due(b.pour(0, 0, 0), -1);
+        CHECK.due(b.found(0), 0);
     }
 
     private static void anyNumber() {

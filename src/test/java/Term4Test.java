@@ -58,6 +58,7 @@ public final class Term4Test {
     }
 
     private static void deliveries() {
+        CHECK.saysOfTerm(4, "DELIVERIES (tenths, 1 to 100,000 each) and DIPS (0 to 200,000, up to 30 each)");
         CHECK.says(20, "DELIVERED: all so far there. NONE, doing nothing: not as told, 30 are.");
         PetrolBoard b = board("");
         b.station();
@@ -440,6 +441,7 @@ public final class Term4Test {
     }
 
     private static void judgedAsTold() {
+        CHECK.saysOfTerm(4, "A ROW of LEVELS judged: BLACK by it, if each is as told.");
         CHECK.says(25, "BLACK by the ROW (places 0 on) for DIPS i to j (i below j). NONE: none such, not such LEVELS.");
         PetrolBoard b = board("doubt 10;");
         b.dip(0, 300);
@@ -563,6 +565,7 @@ public final class Term4Test {
     }
 
     private static void roads() {
+        CHECK.saysOfTerm(4, "ROADS of miles 1 to 999 from PORTS to STATIONS.");
         CHECK.says(28, "A ROAD (miles 0: none): true; false: not as told.");
         PetrolBoard b = loads(new int[] {9}, new int[] {2, 3});
         due(b, -1, 0, 0);

@@ -21,11 +21,13 @@ public final class Term5Test {
         firstTwelve();
         asFewAsHaveSeats();
         leastSumThenLeastNumber();
+        together();
         asTheyAre();
         alike();
         sold();
         stays();
         foretoldMonths();
+        foretoldOfLoads();
         foretoldCutUp();
         foretoldKinds();
         foretoldBelow();
@@ -449,6 +451,31 @@ public final class Term5Test {
         CHECK.due(b.other(way, month, due.length, 0), -1);
     }
 
+    private static void together() {
+        CHECK.saysOfTerm(5, "OTHER WAYS to deal the UNITS that all HOLDERS get for a MONTH (as KNOWN TODAY) together");
+        PetrolBoard b = Check.ordered("units 10+class;stop size=9;");
+        b.holder(1, 0, 1, 1, 99);
+        b.holder(9, 0, 1, 2, 7);
+        b.holder(1, 0, 1, 3, 5);
+        // One who is stopped brings nothing and still shares.
+        dealt(b, 0, 0, 10, 0, 10);
+        dealt(b, 1, 0, 6, 6, 6);
+        dealt(b, 2, 0, 8, 7, 5);
+        b.day(1);
+        b.note(0, 4, 31);
+        b.note(2, 4, 60);
+        dealt(b, 1, 0, 6, 6, 6);
+        dealt(b, 1, 1, 6, 6, 6);
+        dealt(b, 1, 2, 9, 9, 9);
+        b.undo(0);
+        dealt(b, 1, 2, 8, 8, 8);
+        dealt(b, 2, 2, 12, 7, 5);
+        // Dealing changes no UNITS.
+        CHECK.due(b.units(0, 2, 1), 10);
+        CHECK.due(b.units(1, 2, 1), 0);
+        dealt(b, 0, 2, 10, 0, 14);
+    }
+
     private static void asTheyAre() {
         CHECK.saysOfTerm(5, "0 as they are");
         PetrolBoard b = Check.ordered("units 100*size-150+month;");
@@ -559,6 +586,40 @@ public final class Term5Test {
                 CHECK.due(b.foretold(n, false), is ? 5000 : NO_AMOUNT);
             }
         }
+    }
+
+    private static void foretoldOfLoads() {
+        CHECK.saysOfTerm(5, "FORETOLD: of PORTS' loads, 100 gallons each, what is left behind n MONTHS from this one on");
+        PetrolBoard b = new PetrolBoard();
+        CHECK.due(b.foretold(12, true), 0);
+        int[] loads = {0, 1, 50, 49};
+        int[] due = {0, 100, 5100, 10_000};
+        for (int p = 0; p < loads.length; p++) {
+            b.port(loads[p]);
+            CHECK.due(b.foretold(1, true), due[p]);
+            CHECK.due(b.foretold(12, false), due[p]);
+        }
+        // What STATIONS want, and what is POURED and DELIVERED, doesn't count.
+        b.station();
+        b.want(0, 20);
+        b.road(2, 0, 5);
+        b.deliver(0, 100_000);
+        b.holder(1, 0, 1, 0, 0);
+        b.pour(0, 0, 1);
+        CHECK.due(b.foretold(12, true), 10_000);
+        // From this MONTH on: what was used ahead of it doesn't count.
+        PetrolBoard later = Check.ordered("units 10;");
+        later.holder(1, 0, 1, 0, 0);
+        later.port(1);
+        Check.tell(later, "", 2);
+        CHECK.due(later.foretold(1, true), 90);
+        CHECK.due(later.foretold(2, true), 80);
+        CHECK.due(later.foretold(3, true), 80);
+        later.day(30);
+        CHECK.due(later.foretold(1, true), 90);
+        CHECK.due(later.foretold(12, true), 90);
+        later.day(60);
+        CHECK.due(later.foretold(1, true), 100);
     }
 
     private static void foretoldCutUp() {
