@@ -77,6 +77,9 @@ public final class LanguageTest {
             members(c, names);
         }
         members(PetrolBoard.class, Set.of());
+        for (Method m : PetrolBoard.class.getDeclaredMethods()) {
+            CHECK.due(isHidden(m.getModifiers()) && names.contains(m.getName()), false);
+        }
     }
 
     private static void members(Class<?> c, Set<String> taken) {

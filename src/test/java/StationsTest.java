@@ -335,5 +335,18 @@ public final class StationsTest {
         CHECK.due(b.judged(0, 0, 1), -1);
         b.level(1, 0);
         CHECK.due(b.judged(0, 0, 1), 3);
+        // A place told tells nothing of those around it.
+        PetrolBoard gaps = board("", 1);
+        for (int k = 0; k < 3; k++) {
+            gaps.dip(0, 0);
+        }
+        gaps.level(1, 0);
+        CHECK.due(gaps.judged(0, 0, 1), -1);
+        CHECK.due(gaps.judged(0, 0, 2), -1);
+        gaps.level(0, 0);
+        CHECK.due(gaps.judged(0, 0, 1), 0);
+        CHECK.due(gaps.judged(0, 0, 2), -1);
+        gaps.level(2, 0);
+        CHECK.due(gaps.judged(0, 0, 2), 0);
     }
 }

@@ -666,6 +666,19 @@ public final class Term5Test {
         b.undo(0);
         CHECK.due(b.foretold(2, false), 100);
         CHECK.due(b.foretold(2, true), 60);
+        // Of this MONTH, too, by what is KNOWN TODAY, not by what was as it began.
+        PetrolBoard late = new PetrolBoard();
+        late.holder(1, 0, 1, 0, 0);
+        late.port(1);
+        late.note(0, 3, 0);
+        late.day(29);
+        CHECK.due(late.foretold(1, false), 100);
+        Check.tell(late, "units 10+class;worth 20;", 0);
+        CHECK.due(late.foretold(1, true), 74);
+        CHECK.due(late.foretold(1, false), 74);
+        late.undo(0);
+        CHECK.due(late.foretold(1, true), 80);
+        CHECK.due(late.foretold(1, false), 100);
     }
 
     private static void foretoldBelow() {
